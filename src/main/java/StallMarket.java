@@ -50,10 +50,10 @@ public final class StallMarket {
 
     private static final Verb[] VERBS = Verb.values();
 
-    private final Parser parser = new Parser();
+    private final Parser parser;
     private final ByteText output = new ByteText();
     private final Script script = new Script();
-    private final Market market = new Market();
+    private final Market market;
     private final Market scratch = new Market();
     private final Market saved = new Market();
     private boolean hasSaved = false;
@@ -62,11 +62,16 @@ public final class StallMarket {
     private final Matching matching = new Matching();
 
     public StallMarket() {
+        // Read before they become part of the object: a constructor hands out nothing of its own.
+        Parser firstParser = new Parser();
+        Market firstMarket = new Market();
         for (int i = 0; i < FIRST_SETUP.length(); i++) {
-            parser.tokens.text.add(FIRST_SETUP.charAt(i));
+            firstParser.tokens.text.add(FIRST_SETUP.charAt(i));
         }
-        SetupReader.read(parser, market);
-        parser.tokens.text.cut(0);
+        SetupReader.read(firstParser, firstMarket);
+        firstParser.tokens.text.cut(0);
+        parser = firstParser;
+        market = firstMarket;
     }
 
     public int appendInput(int a, int b, int c, int d, int e) throws IllegalStateException {

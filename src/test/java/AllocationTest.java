@@ -9,6 +9,8 @@ public final class AllocationTest {
         reports();
         relocations();
         moneyDoesNotMatter();
+        eachCallLooksAtTheMarketAsItIs();
+        nothingLeftGivesNoTurn();
         wrongInputs();
         Check.finish("AllocationTest");
     }
@@ -152,6 +154,35 @@ public final class AllocationTest {
         Check.equal("balances", "0 0", Check.balances(x));
         Check.equal("rentPaid", 0, x.rentPaid());
         Check.equal("day", 0, x.day());
+    }
+
+    /** No answer may come from what an earlier call has worked out. */
+    private static void eachCallLooksAtTheMarketAsItIs() {
+        Check.equal("gainers as the first call", 4, new StallMarket().gainerCount());
+        StallMarket x = Check.market("market;stall a 0;stall b 0;seller s 0 0 a;seller t 0 0 a b;");
+        Check.equal("t first", 0, x.allocatedIfFirst(1));
+        Check.equal("t reports b", 1, x.allocatedIfReported(1, 1));
+        Check.equal("gainers", 2, x.gainerCount());
+        x.assign(0, 0);
+        Check.equal("t first, s at a", 1, x.allocatedIfFirst(1));
+        Check.equal("gainers, s at a", 1, x.gainerCount());
+        x.removePreference(1, 1);
+        Check.equal("t first, without b", -1, x.allocatedIfFirst(1));
+        Check.equal("t reports a, without b", -1, x.allocatedIfReported(1, 0));
+        x.preferFirst(0, 1);
+        Check.equal("t reports a, s wants b", 0, x.allocatedIfReported(1, 0));
+        Check.equal("t as it is", 0, x.allocatedStall(1));
+    }
+
+    /** A seller without a request must not pass its turn on to another one, the first by index. */
+    private static void nothingLeftGivesNoTurn() {
+        StallMarket x = Check.market("market;stall a 0;seller s 0 0 a;seller t 0 0;seller u 0 0 a;");
+        x.setPriority(0, 2);
+        Check.equal("t, u, s", "--0", allocated(x));
+        x.setPriority(1, 2);
+        Check.equal("u, s, t", "--0", allocated(x));
+        x.setPriority(0, 0);
+        Check.equal("s, u, t", "0--", allocated(x));
     }
 
     private static void wrongInputs() {

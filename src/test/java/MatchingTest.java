@@ -21,7 +21,11 @@ public final class MatchingTest {
                 + "seller g 0 0 a b c d e f g h;seller h 0 0 a b c d e f g h;", 8, 28);
         expect(STALLS8 + "seller a 0 0 h;seller b 0 0 g h;seller c 0 0 f g h;seller d 0 0 h g f e;"
                 + "seller e 0 0 h;", 4, 3);
+        // The same size with other stalls: the least sum counts, in whatever order they come.
+        expect("market;stall a 0;stall b 0;seller s 0 0 b a;", 1, 0);
+        expect("market;stall a 0;stall b 0;stall c 0;seller s 0 0 c b a;seller t 0 0 c a;", 2, 1);
         occupationDoesNotMatter();
+        eachCallLooksAtTheMarketAsItIs();
         meanRanks();
         fractions();
         Check.finish("MatchingTest");
@@ -47,6 +51,22 @@ public final class MatchingTest {
         x.preferFirst(2, 1);
         Check.equal("cid takes west from ann", 4, x.maximumMatchingSize());
         Check.equal("ann east, bob south, cid west, dot north", 2, x.leastRankSum());
+    }
+
+    private static void eachCallLooksAtTheMarketAsItIs() {
+        StallMarket x = Check.market("market;stall a 0;stall b 0;seller s 0 0 a b;"
+                + "seller t 0 0 a b;");
+        Check.equal("leastRankSum as the first call", 1, x.leastRankSum());
+        x.removePreference(0, 0);
+        Check.equal("s has b alone", 0, x.leastRankSum());
+        x.removePreference(1, 0);
+        Check.equal("both have b alone", 1, x.maximumMatchingSize());
+        x.preferFirst(1, 0);
+        x.preferFirst(0, 0);
+        Check.equal("a sum again", 1, x.leastRankSum());
+        Check.load(x, "market;stall a 0;seller s 0 0;");
+        Check.equal("no sum without a stall", 0, x.leastRankSum());
+        Check.equal("no size", 0, x.maximumMatchingSize());
     }
 
     private static void meanRanks() {

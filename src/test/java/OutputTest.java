@@ -22,6 +22,7 @@ public final class OutputTest {
         Check.equal("an empty text", -1, x.outputByte(0));
         Check.equal("undoCount", 2, x.undoCount());
         x.writeAssignment();
+        Check.equal("twice is once", 29, x.writeAssignment());
         x.reallocate();
         x.undo();
         x.save();

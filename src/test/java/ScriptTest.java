@@ -146,6 +146,9 @@ public final class ScriptTest {
         expectError(1, "#vacates;");
         expectError(1, "#reallocated;");
         expectError(1, "#reallocat;");
+        expectError(1, "#seallocate;");
+        expectError(1, "#reallocata;");
+        expectError(1, "#tent a 5;");
         expectError(1, "#market;");
         expectError(1, "vacate s#");
         expectError(1, "vacate s  #");

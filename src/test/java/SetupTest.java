@@ -87,6 +87,10 @@ public final class SetupTest {
         expectError(1, "     #");
         expectError(1, "#markets;");
         expectError(1, "#marke;");
+        expectError(1, "#narket;");
+        expectError(1, "#markez;");
+        expectError(1, "market;#atall a 1;");
+        expectError(1, "market;stall a 1;#teller s 1 1;");
         expectError(1, "#;market");
         expectError(1, "#5;");
         expectError(1, "  #Market;");
@@ -165,6 +169,8 @@ public final class SetupTest {
         expectError(3, "market;stall a 1;seller s 1 1 a at #b;");
         expectError(3, "market;stall a 1;seller s 1 1 a at #abcdefgh;");
         expectError(3, "market;stall a 1;seller s 1 1 #seller;");
+        expectError(3, "market;stall a 1;seller s 1 1 #et a;");
+        expectError(3, "market;stall a 1;seller s 1 1 #as a;");
         // The first six letters do not make a longer word that name.
         expectError(3, "market;stall abcdef 1;stall #abcdefg 1;");
         expectError(3, "market;stall abcdef 1;seller s 1 1 #abcdefabcdef;");
@@ -200,6 +206,8 @@ public final class SetupTest {
         x.advanceDays(9);
         x.reallocate();
         x.save();
+        // What such a question works on must not get into the market that is loaded next.
+        x.allocatedIfFirst(3);
         x.writeAssignment();
         String output = Check.output(x);
         String saved = Check.marketOf(x);
