@@ -15,19 +15,10 @@ public final class AllocationTest {
         Check.finish("AllocationTest");
     }
 
-    private static String allocated(StallMarket x) {
-        StringBuilder text = new StringBuilder();
-        for (int seller = 0; seller < x.sellerCount(); seller++) {
-            int stall = x.allocatedStall(seller);
-            text.append(stall == -1 ? "-" : String.valueOf(stall));
-        }
-        return text.toString();
-    }
-
     private static void newMarket() {
         StallMarket x = new StallMarket();
         String before = Check.stateOf(x);
-        Check.equal("allocated", "1023", allocated(x));
+        Check.equal("allocated", "1023", Check.allocated(x));
         Check.equal("gainers", 4, x.gainerCount());
         x.allocatedIfFirst(3);
         x.allocatedIfReported(2, 3);
@@ -48,42 +39,42 @@ public final class AllocationTest {
     private static void requestsGiveTurns() {
         StallMarket x = Check.market("market;stall a 0;stall b 0;seller s 0 0 a;seller t 0 0 b;"
                 + "seller u 0 0 b a at a;");
-        Check.equal("u gets b before t", "0-1", allocated(x));
+        Check.equal("u gets b before t", "0-1", Check.allocated(x));
         x.vacate(2);
-        Check.equal("without a house no turn", "01-", allocated(x));
+        Check.equal("without a house no turn", "01-", Check.allocated(x));
         StallMarket keeps = Check.market("market;stall a 0;seller s 0 0 a;seller t 0 0 a at a;");
-        Check.equal("the owner keeps what it wants", "-0", allocated(keeps));
+        Check.equal("the owner keeps what it wants", "-0", Check.allocated(keeps));
         StallMarket gone = Check.market("market;stall a 0;stall b 0;seller s 0 0 b a at a;"
                 + "seller t 0 0 a;");
-        Check.equal("the stall of a finished seller", "10", allocated(gone));
+        Check.equal("the stall of a finished seller", "10", Check.allocated(gone));
     }
 
     private static void chainsReturnToEarlierSellers() {
         // s requests b of t, t requests a of u, u requests b of t: t and u trade, s asks again.
         StallMarket x = Check.market("market;stall a 0;stall b 0;stall c 0;seller s 0 0 b c;"
                 + "seller t 0 0 a at b;seller u 0 0 b at a;");
-        Check.equal("the cycle leaves out the first", "201", allocated(x));
+        Check.equal("the cycle leaves out the first", "201", Check.allocated(x));
         Check.equal("reallocate", 3, x.reallocate());
         Check.equal("relocationCount", 3, x.relocationCount());
         StallMarket all = Check.market("market;stall a 0;stall b 0;stall c 0;"
                 + "seller s 0 0 b at a;seller t 0 0 c at b;seller u 0 0 a at c;");
-        Check.equal("a cycle of all", "120", allocated(all));
+        Check.equal("a cycle of all", "120", Check.allocated(all));
         // The chain s, t, u ends as u takes the free d; t then takes u's c and s takes t's b.
         StallMarket free = Check.market("market;stall a 0;stall b 0;stall c 0;stall d 0;"
                 + "seller s 0 0 b at a;seller t 0 0 c at b;seller u 0 0 d at c;");
-        Check.equal("a chain to a free stall", "123", allocated(free));
+        Check.equal("a chain to a free stall", "123", Check.allocated(free));
     }
 
     private static void sellersWithNothingToWish() {
         StallMarket x = Check.market("market;stall a 0;stall b 0;seller s 0 0 at a;"
                 + "seller t 0 0 a at b;seller u 0 0;");
-        Check.equal("an empty list gives up the stall", "-0-", allocated(x));
+        Check.equal("an empty list gives up the stall", "-0-", Check.allocated(x));
         Check.equal("gainers: the unacceptable stall is worse than none", 2, x.gainerCount());
         Check.equal("reallocate counts both", 2, x.reallocate());
         Check.equal("relocationCount counts one", 1, x.relocationCount());
         Check.equal("places", "-0-", Check.places(x));
         StallMarket y = Check.market("market;stall a 0;stall b 0;seller s 0 0 a;seller t 0 0 a at b;");
-        Check.equal("none of the list is left", "0-", allocated(y));
+        Check.equal("none of the list is left", "0-", Check.allocated(y));
         Check.equal("gainers", 2, y.gainerCount());
         StallMarket same = Check.market("market;stall a 0;seller s 0 0 a at a;seller t 0 0;");
         Check.equal("nobody gains", 0, same.gainerCount());
@@ -92,20 +83,20 @@ public final class AllocationTest {
     private static void priorities() {
         StallMarket x = Check.market("market;stall a 0;stall b 0;stall c 0;seller s 0 0 a b c;"
                 + "seller t 0 0 a b c;seller u 0 0 a c b;");
-        Check.equal("by index", "012", allocated(x));
+        Check.equal("by index", "012", Check.allocated(x));
         Check.equal("t first", 0, x.allocatedIfFirst(1));
         Check.equal("u first", 0, x.allocatedIfFirst(2));
         Check.equal("s is first", 0, x.allocatedIfFirst(0));
         x.setPriority(2, 0);
-        Check.equal("u at the top", "120", allocated(x));
+        Check.equal("u at the top", "120", Check.allocated(x));
         Check.equal("s first, the others in their order", 0, x.allocatedIfFirst(0));
         x.setPriority(1, 0);
-        Check.equal("t, u, s", "102", allocated(x));
+        Check.equal("t, u, s", "102", Check.allocated(x));
         // If s is first, u follows t still: s keeps a from both, t takes b, u takes c.
         StallMarket y = Check.market("market;stall a 0;stall b 0;seller s 0 0 a at b;"
                 + "seller t 0 0 a;seller u 0 0 b;");
         y.setPriority(1, 0);
-        Check.equal("t takes a first", "-01", allocated(y));
+        Check.equal("t takes a first", "-01", Check.allocated(y));
         Check.equal("s if first", 0, y.allocatedIfFirst(0));
         Check.equal("the order stays", "102", Check.order(y));
     }
@@ -133,7 +124,7 @@ public final class AllocationTest {
         StallMarket x = Check.market("market;stall a 0;stall b 0;stall c 0;seller s 0 0 b a at a;"
                 + "seller t 0 0 c;seller u 0 0 at c;seller v 0 0 b at b;");
         // s keeps a, since v keeps b; t gets its first stall from u, who gives up c.
-        Check.equal("allocated", "02-1", allocated(x));
+        Check.equal("allocated", "02-1", Check.allocated(x));
         Check.equal("reallocate", 2, x.reallocate());
         Check.equal("relocationCount", 1, x.relocationCount());
         x.preferFirst(0, 2);
@@ -149,7 +140,7 @@ public final class AllocationTest {
     private static void moneyDoesNotMatter() {
         StallMarket x = Check.market("market;stall a 99;stall b 99;seller s 0 0 b a at a;"
                 + "seller t 0 0 a at b;");
-        Check.equal("allocated", "10", allocated(x));
+        Check.equal("allocated", "10", Check.allocated(x));
         Check.equal("reallocate", 2, x.reallocate());
         Check.equal("balances", "0 0", Check.balances(x));
         Check.equal("rentPaid", 0, x.rentPaid());
@@ -178,11 +169,11 @@ public final class AllocationTest {
     private static void nothingLeftGivesNoTurn() {
         StallMarket x = Check.market("market;stall a 0;seller s 0 0 a;seller t 0 0;seller u 0 0 a;");
         x.setPriority(0, 2);
-        Check.equal("t, u, s", "--0", allocated(x));
+        Check.equal("t, u, s", "--0", Check.allocated(x));
         x.setPriority(1, 2);
-        Check.equal("u, s, t", "--0", allocated(x));
+        Check.equal("u, s, t", "--0", Check.allocated(x));
         x.setPriority(0, 0);
-        Check.equal("s, u, t", "0--", allocated(x));
+        Check.equal("s, u, t", "0--", Check.allocated(x));
     }
 
     private static void wrongInputs() {

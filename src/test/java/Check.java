@@ -53,6 +53,29 @@ final class Check {
         equal(what + " changes nothing", before, stateOf(x));
     }
 
+    /** Entries a, b, c and so on: "stall a 0;stall b 0;" for two times "stall @ 0;". */
+    static String entries(int count, String pattern) {
+        StringBuilder text = new StringBuilder();
+        for (int i = 0; i < count; i++) {
+            text.append(pattern.replace('@', (char) ('a' + i)));
+        }
+        return text.toString();
+    }
+
+    /** Each seller has its own list and place: "b c at a" for the lists "bc" and the places "a". */
+    static String setup(int stalls, String[] lists, String places) {
+        StringBuilder text = new StringBuilder("market;" + entries(stalls, "stall @ 0;"));
+        for (int i = 0; i < lists.length; i++) {
+            text.append("seller ").append((char) ('a' + i)).append(" 0 0");
+            for (char stall : lists[i].toCharArray()) {
+                text.append(' ').append(stall);
+            }
+            char place = i < places.length() ? places.charAt(i) : '-';
+            text.append(place == '-' ? "" : " at " + place).append(';');
+        }
+        return text.toString();
+    }
+
     static StallMarket market(String setup) {
         StallMarket x = new StallMarket();
         load(x, setup);
@@ -88,8 +111,17 @@ final class Check {
         return word;
     }
 
+    /** Found with few calls: a buffer that takes no more is longer than 680 bytes. */
     static int inputLength(StallMarket x) {
-        for (int length = 700; length >= 0; length--) {
+        try {
+            return x.truncateInput(x.appendInput(0, 0, 0, 0, 0) - 20);
+        } catch (IllegalStateException e) {
+            return fullInputLength(x);
+        }
+    }
+
+    private static int fullInputLength(StallMarket x) {
+        for (int length = 700; length > 680; length--) {
             try {
                 return x.truncateInput(length);
             } catch (IllegalArgumentException e) {
@@ -135,6 +167,16 @@ final class Check {
         StringBuilder text = new StringBuilder();
         for (int seller = 0; seller < x.sellerCount(); seller++) {
             text.append(x.stallOf(seller) == -1 ? "-" : String.valueOf(x.stallOf(seller)));
+        }
+        return text.toString();
+    }
+
+    /** What the reallocation would give to each seller. */
+    static String allocated(StallMarket x) {
+        StringBuilder text = new StringBuilder();
+        for (int seller = 0; seller < x.sellerCount(); seller++) {
+            int stall = x.allocatedStall(seller);
+            text.append(stall == -1 ? "-" : String.valueOf(stall));
         }
         return text.toString();
     }
