@@ -26,6 +26,7 @@ public final class ChangeEdgesTest {
         undoKeepsWhatIsNotTheMarket();
         savedCopiesAreReplacedAndRemain();
         scriptsStopAtTheirEdges();
+        nothingIsLeftOfALongerScript();
         theLastOfFiveHundredTwelveCalls();
         Check.finish("ChangeEdgesTest");
     }
@@ -53,7 +54,8 @@ public final class ChangeEdgesTest {
     private static void assigningForTheLastCoin() {
         for (int rent : new int[] {0, 1, 99}) {
             for (int balance : new int[] {0, 1, 98, 99, 100}) {
-                StallMarket x = Check.market("market;stall a " + rent + ";seller s " + balance + " 99;");
+                StallMarket x = Check.market("market;stall a " + rent + ";seller s " + balance
+                        + " 99;");
                 Object got;
                 try {
                     got = x.assign(0, 0);
@@ -400,6 +402,19 @@ public final class ChangeEdgesTest {
         Check.equal("one operation", 1, x.undoCount());
         x.undo();
         Check.equal("undone", Check.marketOf(new StallMarket()), Check.marketOf(x));
+    }
+
+    private static void nothingIsLeftOfALongerScript() {
+        StallMarket x = new StallMarket();
+        for (int commands = 20; commands >= 0; commands--) {
+            int before = x.balance(0);
+            Check.equal("commands", commands, Check.run(x, "deposit ann 1;".repeat(commands)));
+            Check.equal("no more than these", before + commands, x.balance(0));
+        }
+        Check.equal("an error in a third command", -1, Check.run(x, "days 1;vacate ann;days 0;"));
+        Check.equal("an empty script behind it", 0, Check.run(x, ""));
+        Check.equal("no day", 0, x.day());
+        Check.equal("no command", 0, x.stallOf(0));
     }
 
     private static void theLastOfFiveHundredTwelveCalls() {

@@ -19,6 +19,8 @@ public final class MarketEdgesTest {
         efficiencyOfTheEmptyAndTheFull();
         blockReasonsInTheirOrder();
         theMechanismWithEight();
+        cyclesFromEachPlaceOfTheChain();
+        thoseWhoGetNoneHandOnNoTurn();
         theMechanismWithOne();
         theMechanismStepByStep();
         allocatedIfFirstAtBothEnds();
@@ -38,6 +40,10 @@ public final class MarketEdgesTest {
 
     private static StallMarket market(int stalls, String places, String... lists) {
         return Check.market(Check.setup(stalls, lists, places));
+    }
+
+    private static void allocates(String what, String want, StallMarket x) {
+        Check.equal(what, want, Check.allocated(x));
     }
 
     /** Each of so many sellers holds its own stall and lists the next one's, the last the first's. */
@@ -85,7 +91,8 @@ public final class MarketEdgesTest {
                 int otherPlace = other == -1 ? 8 : other;
                 String what = "prefers " + stall + " to " + other;
                 Check.equal(what + ", full", place < otherPlace, full.prefers(0, stall, other));
-                Check.equal(what + ", empty", stall == -1 && other != -1, empty.prefers(0, stall, other));
+                Check.equal(what + ", empty", stall == -1 && other != -1,
+                        empty.prefers(0, stall, other));
                 Check.equal(what + ", part", "hc-".indexOf(sign(stall)) >= 0
                         && ("hc-".indexOf(sign(other)) < 0
                         || "hc-".indexOf(sign(stall)) < "hc-".indexOf(sign(other))),
@@ -206,7 +213,8 @@ public final class MarketEdgesTest {
         Check.equal("free, but not on the list", -1, market(8, "a", "a").betterFreeStall(0));
         Check.equal("none on an empty list", -1, market(8, "", "").betterFreeStall(0));
         Check.equal("none from an unacceptable one", -1, market(8, "a", "").betterFreeStall(0));
-        Check.equal("the first one from an unacceptable one", 7, market(8, "a", "hb").betterFreeStall(0));
+        Check.equal("the first one from an unacceptable one", 7,
+                market(8, "a", "hb").betterFreeStall(0));
     }
 
     private static void efficiencyOfTheEmptyAndTheFull() {
@@ -250,35 +258,69 @@ public final class MarketEdgesTest {
 
     private static void theMechanismWithEight() {
         StallMarket ring = market(8, ALL, ring(8));
-        Check.equal("a cycle of eight", "12345670", Check.allocated(ring));
+        allocates("a cycle of eight", "12345670", ring);
         Check.equal("reallocate", 8, ring.reallocate());
         Check.equal("places", "12345670", Check.places(ring));
         Check.equal("relocationCount", 8, ring.relocationCount());
         StallMarket chain = market(8, "abcdefg", "b", "c", "d", "e", "f", "g", "h", "a");
-        Check.equal("a chain of eight, whose last finds a free stall", "12345670", Check.allocated(chain));
+        allocates("a chain of eight, whose last finds a free stall", "12345670", chain);
         StallMarket dead = market(8, ALL, "b", "c", "d", "e", "f", "g", "h", "");
-        Check.equal("a chain of eight, whose last wants none", "1234567-", Check.allocated(dead));
+        allocates("a chain of eight, whose last wants none", "1234567-", dead);
         Check.equal("reallocate", 8, dead.reallocate());
         Check.equal("relocationCount", 7, dead.relocationCount());
         StallMarket keeps = market(8, ALL, "bh", "ch", "dh", "eh", "fh", "gh", "h", "h");
-        Check.equal("a chain of eight, whose last keeps its own", "123456-7", Check.allocated(keeps));
+        allocates("a chain of eight, whose last keeps its own", "123456-7", keeps);
         StallMarket same = market(8, "", ALL, ALL, ALL, ALL, ALL, ALL, ALL, ALL);
-        Check.equal("eight of the same list", "01234567", Check.allocated(same));
+        allocates("eight of the same list", "01234567", same);
         for (int seller = 0; seller < 8; seller++) {
             same.setPriority(seller, 0);
         }
-        Check.equal("in the turned order", "76543210", Check.allocated(same));
-        Check.equal("eight for one stall", "0-------", Check.allocated(market(1, "", "a", "a", "a", "a", "a",
-                "a", "a", "a")));
-        Check.equal("the one who holds it keeps it", "-------0", Check.allocated(market(1, "-------a", "a",
-                "a", "a", "a", "a", "a", "a", "a")));
+        allocates("in the turned order", "76543210", same);
+        allocates("eight for one stall", "0-------", market(1, "", "a", "a", "a", "a", "a",
+                "a", "a", "a"));
+        allocates("the one who holds it keeps it", "-------0", market(1, "-------a", "a",
+                "a", "a", "a", "a", "a", "a", "a"));
+    }
+
+    /** The last of the chain requests the stall of the seller at each place of it, its own at last. */
+    private static void cyclesFromEachPlaceOfTheChain() {
+        for (int place = 0; place < 8; place++) {
+            String[] lists = ring(8);
+            lists[7] = ALL.substring(place, place + 1);
+            StringBuilder want = new StringBuilder("1234567").append(place);
+            if (place > 0) {
+                want.setCharAt(place - 1, '-');
+            }
+            StallMarket x = market(8, ALL, lists);
+            allocates("back to the place " + place, want.toString(), x);
+            Check.equal("reallocate", 8 - (place == 7 ? 1 : 0), x.reallocate());
+            Check.equal("places", want.toString(), Check.places(x));
+        }
+    }
+
+    /** A seller who gets none hands its turn to nobody: the next one by priority follows. */
+    private static void thoseWhoGetNoneHandOnNoTurn() {
+        for (int none = 0; none < 3; none++) {
+            int low = none == 0 ? 1 : 0;
+            int high = 3 - none - low;
+            String[] lists = {"a", "a", "a"};
+            lists[none] = "";
+            StallMarket x = market(1, "", lists);
+            x.setPriority(none, 0);
+            x.setPriority(high, 1);
+            Check.equal("the next, none by " + none, 0, x.allocatedStall(high));
+            Check.equal("the last, none by " + none, -1, x.allocatedStall(low));
+            x.setPriority(low, 1);
+            Check.equal("the next turned, none by " + none, 0, x.allocatedStall(low));
+            Check.equal("the last turned, none by " + none, -1, x.allocatedStall(high));
+        }
     }
 
     private static void theMechanismWithOne() {
-        Check.equal("a free stall", "0", Check.allocated(market(1, "", "a")));
-        Check.equal("its own stall", "0", Check.allocated(market(1, "a", "a")));
-        Check.equal("an empty list", "-", Check.allocated(market(1, "a", "")));
-        Check.equal("neither", "-", Check.allocated(market(1, "", "")));
+        allocates("a free stall", "0", market(1, "", "a"));
+        allocates("its own stall", "0", market(1, "a", "a"));
+        allocates("an empty list", "-", market(1, "a", ""));
+        allocates("neither", "-", market(1, "", ""));
         StallMarket x = market(1, "a", "");
         Check.equal("reallocate takes it away", 1, x.reallocate());
         Check.equal("none", -1, x.stallOf(0));
@@ -288,19 +330,18 @@ public final class MarketEdgesTest {
     }
 
     private static void theMechanismStepByStep() {
-        Check.equal("1: the highest priority comes first", "0-", Check.allocated(market(1, "", "a", "a")));
-        Check.equal("2: the first that is available", "01", Check.allocated(market(2, "", "a", "ab")));
-        Check.equal("3: none is available", "0--", Check.allocated(market(2, "", "a", "a", "")));
-        Check.equal("4: free before", "1-", Check.allocated(market(2, "a", "b", "")));
-        Check.equal("4: its own before", "0-", Check.allocated(market(2, "a", "a", "a")));
-        Check.equal("4: of a finished seller before", "10", Check.allocated(market(2, "a", "b", "a")));
-        Check.equal("4: of a finished seller who got none", "-0", Check.allocated(market(1, "a", "", "a")));
-        Check.equal("5: the other comes into the chain", "012", Check.allocated(market(3, "-ab", "a", "b", "c")));
-        Check.equal("5: a cycle of two behind the first", "210",
-                Check.allocated(market(3, "-ab", "bc", "b", "a")));
-        Check.equal("5: a cycle of all", "10", Check.allocated(market(2, "ab", "b", "a")));
-        Check.equal("5: the cycle leaves out those before it", "-102",
-                Check.allocated(market(3, "-abc", "b", "b", "a", "c")));
+        allocates("1: the highest priority comes first", "0-", market(1, "", "a", "a"));
+        allocates("2: the first that is available", "01", market(2, "", "a", "ab"));
+        allocates("3: none is available", "0--", market(2, "", "a", "a", ""));
+        allocates("4: free before", "1-", market(2, "a", "b", ""));
+        allocates("4: its own before", "0-", market(2, "a", "a", "a"));
+        allocates("4: of a finished seller before", "10", market(2, "a", "b", "a"));
+        allocates("4: of a finished seller who got none", "-0", market(1, "a", "", "a"));
+        allocates("5: the other comes into the chain", "012", market(3, "-ab", "a", "b", "c"));
+        allocates("5: a cycle of two behind the first", "210", market(3, "-ab", "bc", "b", "a"));
+        allocates("5: a cycle of all", "10", market(2, "ab", "b", "a"));
+        allocates("5: the cycle leaves out those before it", "-102",
+                market(3, "-abc", "b", "b", "a", "c"));
     }
 
     private static void allocatedIfFirstAtBothEnds() {
@@ -405,7 +446,8 @@ public final class MarketEdgesTest {
         }
         Check.equal("no rent", -1,
                 Check.market("market;stall a 0;seller s 0 0 at a;").daysUntilEviction(0));
-        Check.equal("no stall", -1, Check.market("market;stall a 9;seller s 0 0;").daysUntilEviction(0));
+        Check.equal("no stall", -1,
+                Check.market("market;stall a 9;seller s 0 0;").daysUntilEviction(0));
         Check.equal("a coin less a day", 100,
                 Check.market("market;stall a 10;seller s 99 9 at a;").daysUntilEviction(0));
     }

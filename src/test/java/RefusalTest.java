@@ -151,7 +151,8 @@ public final class RefusalTest {
     private static void theInputBuffer() {
         for (int length = 681; length <= 700; length++) {
             StallMarket x = filled(length);
-            Check.equal("appendInput at " + length, STATE, thrown(x, y -> y.appendInput(0, 0, 0, 0, 0)));
+            Check.equal("appendInput at " + length, STATE,
+                    thrown(x, y -> y.appendInput(0, 0, 0, 0, 0)));
             expectAlike("appendInput at " + length, filled(length), x);
             int above = length + 1;
             Check.equal("truncateInput to " + above, ARGUMENT, thrown(x, y -> y.truncateInput(above)));

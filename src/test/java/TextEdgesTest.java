@@ -1,3 +1,5 @@
+import java.math.BigInteger;
+
 /** The edges of promises 2 to 7 and 23, and of the section "Texts": one method a sentence. */
 public final class TextEdgesTest {
     private static final int SETUP = 0;
@@ -214,11 +216,10 @@ public final class TextEdgesTest {
         reject(kind, 2, pattern.replace("@", "#0" + (most + 1)));
         reject(kind, 2, pattern.replace("@", "#" + most + "0"));
         reject(kind, 2, pattern.replace("@", "#1" + "0".repeat(String.valueOf(most).length())));
-        java.math.BigInteger one = java.math.BigInteger.ONE;
         for (int bits : new int[] {8, 15, 16, 31, 32, 33, 63, 64, 65, 128}) {
             if (bits > 14 || most < 100) {
                 // An arithmetic that wraps around would find the least number here.
-                String wrapped = one.shiftLeft(bits).add(java.math.BigInteger.valueOf(least)).toString();
+                BigInteger wrapped = BigInteger.ONE.shiftLeft(bits).add(BigInteger.valueOf(least));
                 reject(kind, 2, pattern.replace("@", "#" + wrapped));
             }
         }
@@ -262,7 +263,8 @@ public final class TextEdgesTest {
     /** A longer word is none of the names that are its beginning or its end. */
     private static void wordsHaveAnyLength() {
         String setup = "market;stall abcdef 1;stall b 1;seller abcdef 1 1;seller b 1 1 ";
-        for (String word : new String[] {"abcdefa", "aabcdef", "abcdefabcdef", "bb", "abcde", "bcdef"}) {
+        for (String word : new String[] {"abcdefa", "aabcdef", "abcdefabcdef", "bb", "abcde",
+            "bcdef"}) {
             reject(SETUP, 3, setup + "#" + word + ";");
             reject(SETUP, 3, setup + "at #" + word + ";");
             StallMarket x = Check.market(setup + ";");
@@ -361,7 +363,8 @@ public final class TextEdgesTest {
             reject(SETUP, 4, stalls + "seller s 1 1 " + twice + " #" + twice + ";");
             reject(SETUP, 4, stalls + "seller s 1 1 at " + twice + ";seller t 1 1 at #" + twice + ";");
         }
-        accept(SETUP, 2, stalls + "seller s 1 1 h a g b f c e d at d;seller t 1 1 h a g b f c e d at e;");
+        accept(SETUP, 2, stalls + "seller s 1 1 h a g b f c e d at d;"
+                + "seller t 1 1 h a g b f c e d at e;");
     }
 
     private static void atIsNeverAStall() {
@@ -396,7 +399,8 @@ public final class TextEdgesTest {
 
     private static void aTextThatEndsTooEarly() {
         String setup = "market ; stall a 5 ; stall b 6 ; seller s 7 8 b a at a ; seller t 1 2 ";
-        String script = "assign ann east ; vacate bob ; swap ann bob ; reallocate ; days 9 ; rent east 5 ";
+        String script = "assign ann east ; vacate bob ; swap ann bob ; reallocate ; days 9 ; "
+                + "rent east 5 ";
         for (int kind : new int[] {SETUP, SCRIPT}) {
             String text = kind == SETUP ? setup : script;
             for (int end = 0; end <= text.length(); end++) {
@@ -490,7 +494,8 @@ public final class TextEdgesTest {
     private static void findSellerTakesTheWholeBuffer() {
         StallMarket x = Check.market("market;stall a 1;seller b 1 1;seller abcdef 1 1;");
         for (String text : new String[] {"", " ", "b ", " b", "bb", "abcde", "abcdefa", "abcdefb", "a",
-            "b;", ";b", "B", "b\0", "\0b", "b\u00ff", "bcdef", "b" + " ".repeat(699), "b".repeat(700)}) {
+            "b;", ";b", "B", "b\0", "\0b", "b\u00ff", "bcdef", "b" + " ".repeat(699),
+            "b".repeat(700)}) {
             Check.put(x, text);
             Check.equal("findSeller of " + text, -1, x.findSeller());
             Check.equal("the buffer stays", text.length(), Check.inputLength(x));
