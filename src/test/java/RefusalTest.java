@@ -21,6 +21,8 @@ public final class RefusalTest {
     public static void main(String[] args) {
         refusalsOfStates();
         refusalsOfRanges();
+        textsWithAnError();
+        questionsChangeNothing();
         theFirstListedException();
         theInputBuffer();
         theLastDay();
@@ -123,6 +125,55 @@ public final class RefusalTest {
         }
         Check.equal(what + " least", "nothing", thrown(prepared(), x -> act.on(x, least)));
         Check.equal(what + " most", "nothing", thrown(prepared(), x -> act.on(x, most)));
+    }
+
+    /** Only the buffer and the reported error change; both are made as before to compare the rest. */
+    private static void textsWithAnError() {
+        String setup = "market;stall a 9;stall b 8;seller s 7 6 b a at a;seller t 5 4 a;";
+        for (int kind = 0; kind < 2; kind++) {
+            String valid = kind == 0 ? setup : "days 9;rent west 0;vacate ann;reallocate;swap ann bob;";
+            for (int end = 1; end <= valid.length(); end++) {
+                StallMarket x = prepared();
+                Check.put(x, valid.substring(0, end) + "?");
+                Check.equal("a text with an error", -1, kind == 0 ? x.loadSetup() : x.runScript());
+                Check.equal("its buffer", 20, x.appendInput(0, 0, 0, 0, 0));
+                Check.run(x, "vacate nobody;");
+                Check.put(x, "deposit dot 5;");
+                expectAlike("a text with an error at " + end, prepared(), x);
+            }
+        }
+    }
+
+    private static void questionsChangeNothing() {
+        StallMarket x = prepared();
+        for (int seller = 0; seller < 4; seller++) {
+            Check.list(x, seller);
+            Check.sellerName(x, seller);
+            x.improvingCycleLength(seller);
+            x.betterFreeStall(seller);
+            x.allocatedStall(seller);
+            x.allocatedIfFirst(seller);
+            x.daysUntilEviction(seller);
+            x.balanceAfter(seller, 400);
+            for (int other = 0; other < 4; other++) {
+                x.envies(seller, other);
+                x.wouldSwap(seller, other);
+                x.rankOf(seller, other);
+                x.prefers(seller, other, -1);
+                x.blockReason(seller, other);
+                x.allocatedIfReported(seller, other);
+            }
+        }
+        x.findSeller();
+        x.freeStallCount();
+        x.swapPairCount();
+        x.isEfficient();
+        x.gainerCount();
+        x.maximumMatchingSize();
+        x.leastRankSum();
+        x.meanRank();
+        x.placedFraction();
+        expectAlike("questions", prepared(), x);
     }
 
     private static void theFirstListedException() {
